@@ -452,14 +452,11 @@ public final class GrainGrower {
     }
 
     private static boolean goesBeyond(long one, long other) {
-        if (one == 0 || other == 0) {
+        if (other == 0) {
             return false;
         }
-        // The least long has no counterpart, so dividing back would not show the wrap.
-        if (one == Long.MIN_VALUE || other == Long.MIN_VALUE) {
-            return one != 1 && other != 1;
-        }
-        return one * other / other != one;
+        // Dividing back shows each wrap but that of the least long by -1.
+        return one * other / other != one || (one == Long.MIN_VALUE && other == -1);
     }
 
     // ---- events, books
@@ -488,10 +485,6 @@ public final class GrainGrower {
                 return 60;
             case 1:
                 return 9;
-            case 2:
-                return MOST_CELLS - 1;
-            case 3:
-                return MOST_HEAT;
             default:
                 return 99;
         }
