@@ -910,7 +910,19 @@ public final class GrainGrower {
         }
 
         int moreWith(int cell, int v) {
-            return energyWith(cell, v) - energyOf(cell);
+            // One walk for both energies: nothing else is asked as often, above all by FITS.
+            int sum = 0;
+            int will = v * MARK_COUNT;
+            int is = marks[cell] * MARK_COUNT;
+            int from = cell * MOST_DIRECTIONS;
+            int end = from + directions();
+            for (int i = from; i < end; i++) {
+                int other = links[i];
+                if (other >= 0) {
+                    sum += prices[will + marks[other]] - prices[is + marks[other]];
+                }
+            }
+            return sum;
         }
 
         int border() {
@@ -943,7 +955,7 @@ public final class GrainGrower {
 
         private int draw(int below) {
             seed = seed * 1103515245 + 12345;
-            return below < 1 ? 0 : (seed & Integer.MAX_VALUE) / 65536 % below;
+            return below < 1 ? 0 : (seed & 0x7fffffff) / 65536 % below;
         }
 
         /** In hundredths; CERTAIN alone means that no DRAW is needed, as HEAT is less. */
