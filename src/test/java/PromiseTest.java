@@ -453,17 +453,17 @@ public final class PromiseTest {
         // So 0 would between 7 and 1.
         due("6 beside 7 and 1", x.of(3, 2), 2);
         due("0 is no mark beside either", x.cool(1), 0);
-        x = lattice(2, 2, "21 30");
+        x = lattice(2, 2, "12 03");
         x.price(2, 1);
         x.pin(0, 1);
         x.pin(1, 1);
-        x.pin(2, 1);
+        x.pin(3, 1);
         x.set(1, 1);
         x.set(1, 0);
         due("2 was beside by EIGHT, but is no more", x.cool(1), 0);
         x.set(1, 1);
         due("by EIGHT it is taken", x.cool(1), 1);
-        due("2", x.of(3, 0), 2);
+        due("2", x.of(2, 0), 2);
     }
 
     private static void feed() {
@@ -773,6 +773,14 @@ public final class PromiseTest {
         x = lattice(6, 6, "012301 234523 456745 670167 012301 234523");
         due("no two alike beside: 36 grains", x.told(1), 36);
         due("the last of 36", x.grain(35, 0), 35);
+        due("the greatest of 36", x.told(2), 1);
+        due("the first of 36", x.told(3), 0);
+        due("no islands", x.told(4), 0);
+        due("large of 36", x.large(1), 36);
+        due("walls among 36", x.walls(0, 35), 10);
+        reading(x, "f00350");
+        due("one is left", x.large(1), 1);
+        due("no island is left", x.told(4), 0);
     }
 
     private static void large() {
