@@ -114,39 +114,10 @@ public final class PromiseTest {
     /** Numbers that are no cell, mark, kind and so on anywhere. */
     private static final int[] NEVER = {-2, -100, 201, MAX, MIN};
 
-    private static GrainGrower lattice(int high, int wide, String marks) {
-        GrainGrower x = new GrainGrower();
-        x.size(high, wide);
-        String m = marks.replace(" ", "");
-        for (int c = 0; c < m.length(); c++) {
-            x.mark(c, m.charAt(c) - '0');
-        }
-        return x;
-    }
-
-    private static String marksOf(GrainGrower x) {
-        StringBuilder b = new StringBuilder();
-        for (int c = 0; c < x.told(6) * x.told(7); c++) {
-            b.append(x.of(c, 0));
-        }
-        return b.toString();
-    }
-
     private static void dueMarks(String what, GrainGrower x, String want) {
-        String got = marksOf(x);
+        String got = Lattices.marksOf(x);
         due(what + " leaves " + got + " (" + want.replace(" ", "") + ")",
                 got.equals(want.replace(" ", "")) ? 1 : 0, 1);
-    }
-
-    private static void type(GrainGrower x, String text) {
-        for (int i = 0; i < text.length(); i++) {
-            x.feed(text.charAt(i));
-        }
-    }
-
-    private static int reading(GrainGrower x, String text) {
-        type(x, text);
-        return x.read();
     }
 
     private static void newObject() {
@@ -403,12 +374,12 @@ public final class PromiseTest {
             went += one.tries(1);
         }
         due("200 one by one", went, many.tries(200));
-        dueMarks("200 tries", one, marksOf(many));
+        dueMarks("200 tries", one, Lattices.marksOf(many));
         due("the same SEED", one.seed(0), many.seed(0));
     }
 
     private static void cool() {
-        GrainGrower x = lattice(2, 2, "53 25");
+        GrainGrower x = Lattices.of(2, 2, "53 25");
         for (int n : new int[] {-1, 31, MAX, MIN}) {
             due("cool(" + n + ")", x.cool(n), BAD);
         }
@@ -416,7 +387,7 @@ public final class PromiseTest {
         dueMarks("cool(0)", x, "53 25");
         due("by what all have by then", x.cool(1), 3);
         dueMarks("of several the least mark", x, "22 22");
-        x = lattice(2, 3, "221 000");
+        x = Lattices.of(2, 3, "221 000");
         x.set(0, 99);
         due("one change in the first", x.cool(1), 1);
         dueMarks("the first round", x, "220 000");
@@ -426,18 +397,18 @@ public final class PromiseTest {
         due("none in the fourth", x.cool(1), 0);
         dueMarks("all rounds", x, "000 000");
         due("no DRAW", x.seed(1), 1);
-        x = lattice(2, 3, "221 000");
+        x = Lattices.of(2, 3, "221 000");
         due("cool(2)", x.cool(2), 2);
         due("cool(30)", x.cool(30), 1);
-        x = lattice(2, 2, "53 25");
+        x = Lattices.of(2, 2, "53 25");
         x.pin(0, 1);
         x.pin(3, 1);
         due("pins stay, 1 and 2 become 5", x.cool(30), 2);
         dueMarks("pins", x, "55 55");
-        x = lattice(2, 2, "01 00");
+        x = Lattices.of(2, 2, "01 00");
         x.pin(1, 1);
         due("equal is not less", x.cool(5), 0);
-        x = lattice(2, 2, "01 30");
+        x = Lattices.of(2, 2, "01 30");
         x.price(2, 1);
         x.pin(0, 1);
         x.pin(1, 1);
@@ -445,7 +416,7 @@ public final class PromiseTest {
         // 2 would cost nothing between 1 and 3, but it is no mark beside.
         due("0 beside 1 and 3", x.of(3, 2), 2);
         due("only marks beside are taken", x.cool(1), 0);
-        x = lattice(2, 2, "17 16");
+        x = Lattices.of(2, 2, "17 16");
         x.price(2, 1);
         x.pin(0, 1);
         x.pin(1, 1);
@@ -453,7 +424,7 @@ public final class PromiseTest {
         // So 0 would between 7 and 1.
         due("6 beside 7 and 1", x.of(3, 2), 2);
         due("0 is no mark beside either", x.cool(1), 0);
-        x = lattice(2, 2, "12 03");
+        x = Lattices.of(2, 2, "12 03");
         x.price(2, 1);
         x.pin(0, 1);
         x.pin(1, 1);
@@ -493,18 +464,18 @@ public final class PromiseTest {
             2, 3, 1, 2, 1, 2, 1, 2, 3, 1, 2, 3, 1, 1, 1,
             0, 3, 35, 35, 35, 2, 5};
         for (int i = 0; i < texts.length; i++) {
-            due("read of " + texts[i], reading(x, texts[i]), -10 - faults[i]);
+            due("read of " + texts[i], Lattices.reading(x, texts[i]), -10 - faults[i]);
             due("the text is empty behind " + texts[i], x.count(3), 0);
         }
-        due("twelve", reading(x, twelve), 12);
+        due("twelve", Lattices.reading(x, twelve), 12);
         due("empty behind it", x.count(3), 0);
         StringBuilder full = new StringBuilder();
         for (int i = 0; i < 12; i++) {
             full.append(i == 0 ? "" : ";").append("f00000");
         }
-        due("83 signs", reading(x, full.toString()), 12);
+        due("83 signs", Lattices.reading(x, full.toString()), 12);
         x.mark(0, 3);
-        due("nothing is done by a fault", reading(x, "s22;h50;x"), -18);
+        due("nothing is done by a fault", Lattices.reading(x, "s22;h50;x"), -18);
         due("the size is as it was", x.told(6), 6);
         due("the heat is as it was", x.told(8), 0);
         due("the mark is as it was", x.of(0, 0), 3);
@@ -512,7 +483,7 @@ public final class PromiseTest {
 
     private static void readClauses() {
         GrainGrower x = new GrainGrower();
-        due("all kinds", reading(x, "s34;m071;p07;n1;e2;c39;h42"), 7);
+        due("all kinds", Lattices.reading(x, "s34;m071;p07;n1;e2;c39;h42"), 7);
         due("HIGH", x.told(6), 3);
         due("WIDE", x.told(7), 4);
         due("mark of 7", x.of(7, 0), 1);
@@ -521,40 +492,40 @@ public final class PromiseTest {
         due("EDGES", x.told(10), 2);
         due("PRICE", x.told(11), 39);
         due("HEAT", x.told(8), 42);
-        due("refused ones aren't done", reading(x, "s17;s71;s99;m072;m120;m008;n3;e9;c05;c41;c00;p12"), 1);
+        due("refused ones aren't done", Lattices.reading(x, "s17;s71;s99;m072;m120;m008;n3;e9;c05;c41;c00;p12"), 1);
         due("c05 alone was done", x.told(11), 5);
         due("of the size as it is", x.told(6), 3);
         due("its mark stays under the pin", x.of(7, 0), 1);
-        due("p turns a pin off", reading(x, "p07;m072;p07;m073"), 3);
+        due("p turns a pin off", Lattices.reading(x, "p07;m072;p07;m073"), 3);
         due("marked in between", x.of(7, 0), 2);
         due("and on again", x.of(7, 1), 1);
-        due("s takes marks and pins", reading(x, "s34"), 1);
+        due("s takes marks and pins", Lattices.reading(x, "s34"), 1);
         due("no pin", x.told(5), 0);
         due("no mark", x.share(0), 12);
-        x = lattice(3, 4, "0000 0000 0000");
+        x = Lattices.of(3, 4, "0000 0000 0000");
         x.pin(6, 1);
-        due("a block", reading(x, "f01105"), 1);
+        due("a block", Lattices.reading(x, "f01105"), 1);
         dueMarks("a block without its pin", x, "0550 0500 0550");
-        due("a block of one", reading(x, "f03037"), 1);
+        due("a block of one", Lattices.reading(x, "f03037"), 1);
         dueMarks("a block of one", x, "0557 0500 0550");
-        due("the whole", reading(x, "f00112"), 1);
+        due("the whole", Lattices.reading(x, "f00112"), 1);
         dueMarks("the whole", x, "2222 2202 2222");
-        due("a row less, a column less", reading(x, "f04003;f05013;f11033;f01043;f05083"), 0);
-        due("no cell, no cell, no mark", reading(x, "f00123;f12123;f00118"), 0);
-        due("only a pin within: it is done", reading(x, "f06061"), 1);
+        due("a row less, a column less", Lattices.reading(x, "f04003;f05013;f11033;f01043;f05083"), 0);
+        due("no cell, no cell, no mark", Lattices.reading(x, "f00123;f12123;f00118"), 0);
+        due("only a pin within: it is done", Lattices.reading(x, "f06061"), 1);
         dueMarks("nothing of these", x, "2222 2202 2222");
-        due("cells by the size that a clause ahead told", reading(x, "s23;f01051;m060"), 2);
+        due("cells by the size that a clause ahead told", Lattices.reading(x, "s23;f01051;m060"), 2);
         dueMarks("f01051 of 2 by 3", x, "011 011");
-        due("a later one sees the earlier", reading(x, "m001;p00;m002;p00;m003"), 4);
+        due("a later one sees the earlier", Lattices.reading(x, "m001;p00;m002;p00;m003"), 4);
         due("the last mark", x.of(0, 0), 3);
-        due("h99", reading(x, "h99"), 1);
-        due("h00", reading(x, "h00"), 1);
+        due("h99", Lattices.reading(x, "h99"), 1);
+        due("h00", Lattices.reading(x, "h00"), 1);
         due("HEAT 0", x.told(8), 0);
-        due("a refused one alone", reading(x, "s11"), 0);
+        due("a refused one alone", Lattices.reading(x, "s11"), 0);
     }
 
     private static void of() {
-        GrainGrower x = lattice(2, 3, "112 001");
+        GrainGrower x = Lattices.of(2, 3, "112 001");
         x.pin(2, 1);
         int[] energies = {1, 2, 2, 1, 2, 2};
         int[] grains = {0, 0, 1, 2, 2, 3};
@@ -589,7 +560,7 @@ public final class PromiseTest {
     }
 
     private static void beside() {
-        GrainGrower x = lattice(3, 4, "");
+        GrainGrower x = Lattices.of(3, 4, "");
         dueBeside(x, 5, 1, 6, 9, 4);
         dueBeside(x, 0, NOWHERE, 1, 4, NOWHERE);
         dueBeside(x, 11, 7, NOWHERE, NOWHERE, 10);
@@ -686,13 +657,13 @@ public final class PromiseTest {
             due("more(" + n + ", 0)", x.more(n, 0), NONE);
             due("more(0, " + n + ")", x.more(0, n), BAD);
         }
-        x = lattice(2, 2, "13 30");
+        x = Lattices.of(2, 2, "13 30");
         x.price(2, 1);
         due("2 is a twin of 1 and 3", x.more(3, 2), 996);
     }
 
     private static void told() {
-        GrainGrower x = lattice(3, 4, "0011 2031 2231");
+        GrainGrower x = Lattices.of(3, 4, "0011 2031 2231");
         x.pin(0, 1);
         x.pin(11, 1);
         x.set(0, 17);
@@ -707,24 +678,24 @@ public final class PromiseTest {
         for (int n : NEVER) {
             due("told(" + n + ")", x.told(n), NONE);
         }
-        x = lattice(2, 4, "0011 0022");
+        x = Lattices.of(2, 4, "0011 0022");
         due("three grains", x.told(1), 3);
         due("greatest", x.told(2), 4);
         due("the first with it", x.told(3), 0);
         due("no islands: each has two neighbours", x.told(4), 0);
-        x = lattice(2, 4, "0011 0011");
+        x = Lattices.of(2, 4, "0011 0011");
         due("the first of two as great", x.told(3), 0);
-        x = lattice(2, 4, "1000 0000");
+        x = Lattices.of(2, 4, "1000 0000");
         due("the second is the greatest", x.told(3), 1);
         due("each of two grains is an island", x.told(4), 2);
-        x = lattice(3, 3, "111 101 111");
+        x = Lattices.of(3, 3, "111 101 111");
         due("within a ring", x.told(4), 2);
-        x = lattice(2, 3, "012 012");
+        x = Lattices.of(2, 3, "012 012");
         due("the outer two are islands", x.told(4), 2);
         x.set(2, 1);
         due("by ROUND none is", x.told(4), 0);
         due("by ROUND the walls count in each direction", x.told(0), 6);
-        x = lattice(2, 2, "01 10");
+        x = Lattices.of(2, 2, "01 10");
         due("four grains of FOUR", x.told(1), 4);
         x.set(1, 2);
         due("up right hangs together by SIX", x.told(1), 3);
@@ -734,7 +705,7 @@ public final class PromiseTest {
     }
 
     private static void share() {
-        GrainGrower x = lattice(2, 3, "012 117");
+        GrainGrower x = Lattices.of(2, 3, "012 117");
         int[] want = {1, 3, 1, 0, 0, 0, 0, 1};
         for (int v = 0; v < 8; v++) {
             due("share(" + v + ")", x.share(v), want[v]);
@@ -747,7 +718,7 @@ public final class PromiseTest {
     }
 
     private static void grain() {
-        GrainGrower x = lattice(3, 3, "110 200 110");
+        GrainGrower x = Lattices.of(3, 3, "110 200 110");
         x.pin(0, 1);
         x.pin(4, 1);
         x.pin(5, 1);
@@ -770,7 +741,7 @@ public final class PromiseTest {
         due("by ROUND the ones are one grain", x.grain(0, 2), 4);
         due("and there are three grains", x.grain(3, 0), NONE);
         due("RIM by ROUND", x.grain(2, 3), 4);
-        x = lattice(6, 6, "012301 234523 456745 670167 012301 234523");
+        x = Lattices.of(6, 6, "012301 234523 456745 670167 012301 234523");
         due("no two alike beside: 36 grains", x.told(1), 36);
         due("the last of 36", x.grain(35, 0), 35);
         due("the greatest of 36", x.told(2), 1);
@@ -778,13 +749,13 @@ public final class PromiseTest {
         due("no islands", x.told(4), 0);
         due("large of 36", x.large(1), 36);
         due("walls among 36", x.walls(0, 35), 10);
-        reading(x, "f00350");
+        Lattices.reading(x, "f00350");
         due("one is left", x.large(1), 1);
         due("no island is left", x.told(4), 0);
     }
 
     private static void large() {
-        GrainGrower x = lattice(2, 4, "0012 0032");
+        GrainGrower x = Lattices.of(2, 4, "0012 0032");
         int[] want = {4, 2, 1, 1, 0};
         for (int n = 1; n <= 5; n++) {
             due("large(" + n + ")", x.large(n), want[n - 1]);
@@ -800,7 +771,7 @@ public final class PromiseTest {
     }
 
     private static void meets() {
-        GrainGrower x = lattice(3, 3, "000 000 001");
+        GrainGrower x = Lattices.of(3, 3, "000 000 001");
         due("one corner: three squares meet one", x.meets(0, 1), 3);
         due("the first of them", x.meets(1, 1), 0);
         due("one square meets two", x.meets(0, 2), 1);
@@ -810,16 +781,16 @@ public final class PromiseTest {
         x.set(2, 1);
         due("not across the edges", x.meets(0, 2), 1);
         due("none in a lattice of all one mark", new GrainGrower().meets(1, 2), NOWHERE);
-        x = lattice(2, 2, "01 23");
+        x = Lattices.of(2, 2, "01 23");
         due("four", x.meets(0, 4), 1);
         due("the first with four", x.meets(1, 4), 0);
-        x = lattice(2, 2, "01 10");
+        x = Lattices.of(2, 2, "01 10");
         due("two marks, but four grains", x.meets(0, 4), 1);
         x.set(1, 1);
         due("two grains by EIGHT", x.meets(0, 2), 1);
         x.set(1, 2);
         due("three grains by SIX", x.meets(0, 3), 1);
-        x = lattice(2, 3, "010 000");
+        x = Lattices.of(2, 3, "010 000");
         due("0 on both sides is one grain", x.meets(0, 2), 2);
         due("side 2", x.meets(2, 9), NONE);
         due("side -1", x.meets(-1, 1), NONE);
@@ -832,7 +803,7 @@ public final class PromiseTest {
     }
 
     private static void walls() {
-        GrainGrower x = lattice(4, 3, "000 111 000 222");
+        GrainGrower x = Lattices.of(4, 3, "000 111 000 222");
         due("one grain", x.walls(0, 2), 0);
         due("the same cell", x.walls(5, 5), 0);
         due("one", x.walls(0, 3), 1);
@@ -841,16 +812,16 @@ public final class PromiseTest {
         due("three back", x.walls(11, 0), 3);
         x.set(2, 1);
         due("one by ROUND", x.walls(0, 11), 1);
-        x = lattice(3, 3, "010 111 010");
+        x = Lattices.of(3, 3, "010 111 010");
         due("from corner to corner", x.walls(0, 8), 2);
-        x = lattice(2, 2, "01 23");
+        x = Lattices.of(2, 2, "01 23");
         due("by FOUR", x.walls(0, 3), 2);
         x.set(1, 1);
         due("by EIGHT", x.walls(0, 3), 1);
         x.set(1, 2);
         due("by SIX not down right", x.walls(0, 3), 2);
         due("by SIX up right", x.walls(2, 1), 1);
-        x = lattice(6, 6, "012345 123456 234567 345670 456701 567012");
+        x = Lattices.of(6, 6, "012345 123456 234567 345670 456701 567012");
         due("ten walls", x.walls(0, 35), 10);
         due("no cell 36", x.walls(36, 0), NONE);
         due("no cell 36", x.walls(0, 36), NONE);
@@ -862,7 +833,7 @@ public final class PromiseTest {
     }
 
     private static void gone() {
-        GrainGrower x = lattice(2, 3, "221 000");
+        GrainGrower x = Lattices.of(2, 3, "221 000");
         due("the 1 goes first", x.gone(2), 1);
         due("then both 2", x.gone(0), 3);
         due("the grain counts, not the cell", x.gone(1), 3);
@@ -870,7 +841,7 @@ public final class PromiseTest {
         x.pin(0, 1);
         due("a pin holds it", x.gone(0), NOWHERE);
         due("by another of its grain too", x.gone(1), NOWHERE);
-        x = lattice(3, 3, "210 200 121");
+        x = Lattices.of(3, 3, "210 200 121");
         due("its mark lives on elsewhere", x.gone(7), 2);
         x.cool(2);
         dueMarks("two rounds", x, "200 200 200");
@@ -879,54 +850,18 @@ public final class PromiseTest {
         for (int n : NEVER) {
             due("gone(" + n + ")", x.gone(n), NONE);
         }
-        due("late", longCooling(29).gone(11), 16);
-        due("behind 30", lastingGrain(30).gone(3), 30);
-        due("behind 31, which is too late", lastingGrain(31).gone(2), NOWHERE);
-        x = lastingGrain(31);
+        due("late", Lattices.coolingFor(29).gone(11), 16);
+        due("behind 30", Lattices.lastingFor(30).gone(3), 30);
+        due("behind 31, which is too late", Lattices.lastingFor(31).gone(2), NOWHERE);
+        x = Lattices.lastingFor(31);
         x.cool(30);
         due("one of its two cells has its mark behind 30", x.of(2, 0) == 2 || x.of(3, 0) == 2 ? 1 : 0, 1);
         x.cool(1);
         due("none behind 31", x.of(2, 0) == 2 || x.of(3, 0) == 2 ? 1 : 0, 0);
     }
 
-    private static GrainGrower lastingGrain(int rounds) {
-        String marks30 = "541266 262677 303253 317501 542745 430400";
-        String pins30 = "000000 010100 000000 011010 000000 000111";
-        String marks31 = "052246 361607 372643 313707 643766 427400";
-        String pins31 = "000010 010100 000000 010110 000000 000111";
-        GrainGrower x = lattice(6, 6, rounds == 30 ? marks30 : marks31);
-        x.set(1, 2);
-        x.set(2, 2);
-        x.price(1, 3);
-        pinAll(x, rounds == 30 ? pins30 : pins31);
-        return x;
-    }
-
-    private static void pinAll(GrainGrower x, String pins) {
-        String p = pins.replace(" ", "");
-        for (int c = 0; c < p.length(); c++) {
-            x.pin(c, p.charAt(c) - '0');
-        }
-    }
-
-    /** Lattices that go on changing for that many ROUNDS OF COOLING (found by a search). */
-    private static GrainGrower longCooling(int rounds) {
-        String marks29 = "712203 143720 000147 224650 624436 457134";
-        String pins29 = "101000 011100 000000 000110 100001 001000";
-        String marks30 = "772040 153736 173330 615651 641146 257234";
-        String pins30 = "111000 011100 000000 000110 100001 001000";
-        String marks31 = "027710 332347 747052 425165 307206 714542";
-        String pins31 = "101001 110000 111100 000000 001110 110101";
-        GrainGrower x = lattice(6, 6, rounds == 29 ? marks29 : rounds == 30 ? marks30 : marks31);
-        x.set(1, rounds == 31 ? 1 : 2);
-        x.set(2, 2);
-        x.price(1, 4);
-        pinAll(x, rounds == 29 ? pins29 : rounds == 30 ? pins30 : pins31);
-        return x;
-    }
-
     private static void cold() {
-        GrainGrower x = lattice(2, 3, "221 000");
+        GrainGrower x = Lattices.of(2, 3, "221 000");
         due("three rounds change something", x.cold(0), 3);
         due("nothing is left", x.cold(1), 0);
         x.pin(0, 1);
@@ -945,10 +880,10 @@ public final class PromiseTest {
         for (int n : NEVER) {
             due("cold(" + n + ")", x.cold(n), NONE);
         }
-        due("29", longCooling(29).cold(0), 29);
-        due("none of 30 rests, by the 31st", longCooling(30).cold(0), NOWHERE);
-        due("none of 30 rests", longCooling(31).cold(0), NOWHERE);
-        GrainGrower behind = longCooling(31);
+        due("29", Lattices.coolingFor(29).cold(0), 29);
+        due("none of 30 rests, by the 31st", Lattices.coolingFor(30).cold(0), NOWHERE);
+        due("none of 30 rests", Lattices.coolingFor(31).cold(0), NOWHERE);
+        GrainGrower behind = Lattices.coolingFor(31);
         int border = behind.cold(1);
         due("30 rounds change", behind.cool(30) >= 30 ? 1 : 0, 1);
         due("border behind 30", border, behind.told(0));
@@ -977,13 +912,13 @@ public final class PromiseTest {
         dueBest("the corner then", x, 0, 0, 2);
         x.pin(0, 1);
         dueBest("none without pin", x, NOWHERE, NOWHERE, NOWHERE);
-        x = lattice(2, 2, "53 20");
+        x = Lattices.of(2, 2, "53 20");
         dueBest("of several the least mark", x, 0, 2, 1);
-        x = lattice(2, 2, "13 30");
+        x = Lattices.of(2, 2, "13 30");
         x.price(2, 1);
         // 0 is a twin of 1; for the first cell 2 and 4 are twins of 3, for the last one too.
         dueBest("marks that none beside has count too", x, 0, 2, 4);
-        x = lattice(2, 2, "00 01");
+        x = Lattices.of(2, 2, "00 01");
         x.set(2, 1);
         dueBest("by ROUND each wall counts twice", x, 3, 0, 4);
         int border = x.told(0);
@@ -1021,7 +956,7 @@ public final class PromiseTest {
     }
 
     private static void fits() {
-        GrainGrower x = lattice(2, 2, "10 00");
+        GrainGrower x = Lattices.of(2, 2, "10 00");
         due("nothing seen: all fit", x.fits(60, 0), 100);
         due("the least of all", x.fits(60, 1), 0);
         x.see(0, 1);
@@ -1068,7 +1003,7 @@ public final class PromiseTest {
     }
 
     private static void odds() {
-        GrainGrower x = lattice(2, 3, "100 000");
+        GrainGrower x = Lattices.of(2, 3, "100 000");
         // Cell 0 by two directions, cell 3 by one (MORE 0), cell 1 by one (MORE 1): of 24.
         dueOdds("without HEAT", x, 1, 8);
         x.set(0, 50);
@@ -1083,7 +1018,7 @@ public final class PromiseTest {
         dueOdds("3 by 4, cut", x, 0, 1);
         x = new GrainGrower();
         dueOdds("all alike", x, 0, 1);
-        x = lattice(2, 2, "01 23");
+        x = Lattices.of(2, 2, "01 23");
         x.set(2, 1);
         dueOdds("always", x, 1, 1);
         due("part 2", x.odds(2), NO);
@@ -1097,10 +1032,10 @@ public final class PromiseTest {
         GrainGrower x = new GrainGrower();
         due("36 above", x.mean(0), 36);
         due("1 below", x.mean(1), 1);
-        x = lattice(2, 5, "00112 00122");
+        x = Lattices.of(2, 5, "00112 00122");
         due("10 by 3", x.mean(0), 10);
         due("10 by 3", x.mean(1), 3);
-        x = lattice(2, 5, "00112 00322");
+        x = Lattices.of(2, 5, "00112 00322");
         due("10 by 4", x.mean(0), 5);
         due("10 by 4", x.mean(1), 2);
         due("part 2", x.mean(2), NO);
@@ -1173,7 +1108,7 @@ public final class PromiseTest {
     }
 
     private static void after() {
-        GrainGrower x = lattice(2, 3, "221 000");
+        GrainGrower x = Lattices.of(2, 3, "221 000");
         dueAfter("no events", x, 4, 3, 3);
         x.event(1, 1);
         dueAfter("one round", x, 3, 2, 4);
@@ -1281,7 +1216,7 @@ public final class PromiseTest {
     }
 
     private static void judge() {
-        GrainGrower x = lattice(2, 3, "012 345");
+        GrainGrower x = Lattices.of(2, 3, "012 345");
         due("nothing is there", x.judge(0, 0), 100);
         due("nothing is there", x.judge(0, -1), 100);
         due("tape 6", x.judge(6, 0), NONE);
@@ -1323,7 +1258,7 @@ public final class PromiseTest {
     }
 
     private static void image() {
-        GrainGrower x = lattice(2, 3, "221 000");
+        GrainGrower x = Lattices.of(2, 3, "221 000");
         due("border", x.image(), 4);
         dueMarks("image", x, "221 000");
         x.cool(1);
@@ -1403,7 +1338,7 @@ public final class PromiseTest {
         x.book(0, 0);
         x.book(0, 0);
         x.book(0, 0);
-        type(x, "abcd");
+        Lattices.type(x, "abcd");
         for (int what = 0; what < 4; what++) {
             due("count(" + what + ")", x.count(what), what + 1);
         }
@@ -1525,7 +1460,7 @@ public final class PromiseTest {
     /** A lattice with something in each of its parts. */
     private static GrainGrower rich() {
         GrainGrower x = new GrainGrower();
-        reading(x, "f00071;f08152;f14213;p07;h60;c14;n1;e2;m353;p35");
+        Lattices.reading(x, "f00071;f08152;f14213;p07;h60;c14;n1;e2;m353;p35");
         x.seed(31);
         x.see(8, 2);
         x.event(0, 30);
@@ -1538,12 +1473,12 @@ public final class PromiseTest {
         x.tape(0, 0, 9);
         x.item(0, 3, 4);
         x.tape(1, 2, 9);
-        type(x, "n0;");
+        Lattices.type(x, "n0;");
         return x;
     }
 
     private static String stateOf(GrainGrower x) {
-        StringBuilder b = new StringBuilder(marksOf(x));
+        StringBuilder b = new StringBuilder(Lattices.marksOf(x));
         for (int c = 0; c < 36; c++) {
             b.append(x.of(c, 1));
         }
