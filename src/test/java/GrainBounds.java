@@ -125,9 +125,9 @@ final class GrainBounds {
     }
 
     private void told() {
-        due.by(17, "0 BORDER, 1 how many GRAINS, 2 the greatest SIZE, 3 the first GRAIN with it, 4 how many ISLANDS,"
-                + " 5 how many PINS, 6 HIGH, 7 WIDE, 8 HEAT, 9 NEAR, 10 EDGES, 11 10 times the KIND of PRICE and its"
-                + " NUMBER.");
+        due.by(17, "0 BORDER, 1 how many GRAINS, 2 the greatest SIZE, 3 the first GRAIN with it, 4 how many"
+                + " ISLANDS, 5 how many PINS, 6 HIGH, 7 WIDE, 8 HEAT, 9 NEAR, 10 EDGES, 11 10 times the KIND of"
+                + " PRICE and its NUMBER.");
         dueTold("a new object", new GrainGrower(), 0, 1, 36, 0, 0, 0, 6, 6, 0, 0, 0, 1);
         GrainGrower x = Lattices.of(6, 6, SCATTERED);
         Lattices.pinAll(x, "1".repeat(36));
@@ -174,8 +174,8 @@ final class GrainBounds {
     }
 
     private void grains() {
-        due.by(TERMS, "A GRAIN: CELLS of one MARK that hang together by steps in DIRECTIONS; GRAINS are numbered from 0"
-                + " by their least CELLS.");
+        due.by(TERMS, "A GRAIN: CELLS of one MARK that hang together by steps in DIRECTIONS; GRAINS are"
+                + " numbered from 0 by their least CELLS.");
         GrainGrower x = Lattices.of(3, 3, "101 001 111");
         due.is("the first is that of cell 0", x.of(0, 3), 0);
         due.is("cell 1", x.of(1, 3), 1);
@@ -204,8 +204,9 @@ final class GrainBounds {
     }
 
     private void grainParts() {
-        due.by(TERMS, "SIZE of one: how many CELLS; RIM: ENERGY of all its CELLS, together; NEIGHBOURS: how many other"
-                + " GRAINS have a CELL BESIDE a CELL of it; PINNED: how many of its CELLS have a PIN.");
+        due.by(TERMS, "SIZE of one: how many CELLS; RIM: ENERGY of all its CELLS, together; NEIGHBOURS: how"
+                + " many other GRAINS have a CELL BESIDE a CELL of it; PINNED: how many of its CELLS have a"
+                + " PIN.");
         GrainGrower x = new GrainGrower();
         dueGrain("one of all", x, 0, 0, 0, 36, 0, 0, 0);
         Lattices.pinAll(x, "1".repeat(36));
@@ -243,6 +244,9 @@ final class GrainBounds {
         Lattices.reading(x, "p35;f00351");
         due.is("one is left", x.grain(0, 2), 36);
         due.is("the others are no more", x.grain(1, 2), NONE);
+        due.is("nor are they neighbours", x.grain(0, 4), 0);
+        due.is("nor islands", x.told(4), 0);
+        due.is("nor are there walls", x.walls(0, 35), 0);
     }
 
     private void dueGrain(String name, GrainGrower x, int grain, int... want) {
@@ -269,8 +273,8 @@ final class GrainBounds {
     }
 
     private void squares() {
-        due.by(TERMS, "A SQUARE: four CELLS of two rows, one next to the other, and of two columns likewise (within the"
-                + " lattice, whatever EDGES are);");
+        due.by(TERMS, "A SQUARE: four CELLS of two rows, one next to the other, and of two columns likewise"
+                + " (within the lattice, whatever EDGES are);");
         for (int high = 2; high <= 6; high++) {
             for (int wide = 2; wide <= 6; wide++) {
                 GrainGrower x = Lattices.of(high, wide, "");
@@ -321,8 +325,8 @@ final class GrainBounds {
     }
 
     private void walls() {
-        due.by(TERMS, "WALLS of two CELLS: the fewest times that one comes from one GRAIN to another one, on steps in"
-                + " DIRECTIONS from the one CELL to the other (0: they are of one GRAIN).");
+        due.by(TERMS, "WALLS of two CELLS: the fewest times that one comes from one GRAIN to another one, on"
+                + " steps in DIRECTIONS from the one CELL to the other (0: they are of one GRAIN).");
         GrainGrower x = Lattices.of(6, 6, SCATTERED);
         due.is("from corner to corner", x.walls(0, 35), 10);
         due.is("and back", x.walls(35, 0), 10);
@@ -353,8 +357,8 @@ final class GrainBounds {
     }
 
     private void gone() {
-        due.by(TERMS, "GONE of a CELL: behind how many ROUNDS OF COOLING (0 .. 30) first none of the CELLS that are of its"
-                + " GRAIN now has the MARK that it has now (-5: not by then).");
+        due.by(TERMS, "GONE of a CELL: behind how many ROUNDS OF COOLING (0 .. 30) first none of the CELLS that"
+                + " are of its GRAIN now has the MARK that it has now (-5: not by then).");
         due.is("behind 30", Lattices.lastingFor(30).gone(3), 30);
         due.is("behind 31 is too late", Lattices.lastingFor(31).gone(2), NOWHERE);
         GrainGrower x = Lattices.lastingFor(31);
@@ -386,8 +390,8 @@ final class GrainBounds {
     }
 
     private void cold() {
-        due.by(TERMS, "COLD: how many ROUNDS OF COOLING (0 .. 30) go by ahead of the first that changes nothing (-5: none of"
-                + " 30 does);");
+        due.by(TERMS, "COLD: how many ROUNDS OF COOLING (0 .. 30) go by ahead of the first that changes nothing"
+                + " (-5: none of 30 does);");
         due.is("none goes by", new GrainGrower().cold(0), 0);
         due.is("one", Lattices.of(3, 3, "000 010 000").cold(0), 1);
         due.is("three", Lattices.of(2, 3, "221 000").cold(0), 3);
@@ -425,8 +429,8 @@ final class GrainBounds {
     }
 
     private void best() {
-        due.by(TERMS, "BEST: the CELL (without PIN) and the MARK (0 .. 7, not its own) for which MORE is least, if that is"
-                + " below 0;");
+        due.by(TERMS, "BEST: the CELL (without PIN) and the MARK (0 .. 7, not its own) for which MORE is least,"
+                + " if that is below 0;");
         dueBest("0 is not below 0", Lattices.of(2, 2, "01 01"), NOWHERE, NOWHERE, NOWHERE);
         dueBest("-1 is", Lattices.of(2, 3, "011 001"), 1, 0, 1);
         dueBest("the first cell", Lattices.of(2, 3, "211 111"), 0, 1, 2);

@@ -1,4 +1,5 @@
 import java.math.BigInteger;
+import java.util.Random;
 
 /** SEEN, odds, EVENTS and the BOOK: promises 26 to 34, and what part 2 of the document says of them. */
 final class HandBounds {
@@ -76,8 +77,8 @@ final class HandBounds {
     }
 
     private void fits() {
-        due.by(TERMS, "FITS of n TRIES (0 .. 60): how many SEEDS 0 .. 99 there are by which, were that SEED now, behind n"
-                + " TRIES from now each of SEEN would be so; the least (-5: none).");
+        due.by(TERMS, "FITS of n TRIES (0 .. 60): how many SEEDS 0 .. 99 there are by which, were that SEED"
+                + " now, behind n TRIES from now each of SEEN would be so; the least (-5: none).");
         dueFits("SEED 0, 10 TRIES", seenBy(21, 7, 4, 5), 10, 1, 0);
         dueFits("SEED 99, 10 TRIES", seenBy(6, 4, 8, 2), 10, 1, 99);
         dueFits("SEED 100, 10 TRIES", seenBy(8, 7, 8, 7), 10, 0, NOWHERE);
@@ -168,8 +169,8 @@ final class HandBounds {
     }
 
     private void odds() {
-        due.by(TERMS, "ODDS: how likely a TRY changes a MARK, each CELL, each DIRECTION alike likely, a CHANGE that needs a"
-                + " DRAW going with as many hundredths as told: a fraction in lowest terms.");
+        due.by(TERMS, "ODDS: how likely a TRY changes a MARK, each CELL, each DIRECTION alike likely, a CHANGE"
+                + " that needs a DRAW going with as many hundredths as told: a fraction in lowest terms.");
         dueOdds("never", new GrainGrower(), 0, 1);
         GrainGrower x = Lattices.of(6, 6, SCATTERED);
         dueOdds("120 of 144 lead to a cell", x, 5, 6);
@@ -260,8 +261,8 @@ final class HandBounds {
     }
 
     private void worth() {
-        due.by(TERMS, "WORTH of a long: it times itself, times BORDER; then, plus it times how many GRAINS there are: each of"
-                + " these steps as a long (NO: one goes beyond a long).");
+        due.by(TERMS, "WORTH of a long: it times itself, times BORDER; then, plus it times how many GRAINS"
+                + " there are: each of these steps as a long (NO: one goes beyond a long).");
         GrainGrower full = Lattices.of(6, 6, SCATTERED);
         full.price(0, 9);
         GrainGrower[] lattices = {new GrainGrower(), Lattices.of(2, 2, "00 01"), Lattices.of(2, 3, "010 000"),
@@ -325,9 +326,9 @@ final class HandBounds {
     }
 
     private void event() {
-        due.by(TERMS, "EVENTS told by hand: what happens (0 n TRIES, 0 .. 60; 1 n ROUNDS OF COOLING, 0 .. 9; 2 CELL n has a"
-                + " PIN, if it has none, else none any more; 3 HEAT becomes n; 4 SEED becomes n, 0 .. 99; 8 rows at"
-                + " most):");
+        due.by(TERMS, "EVENTS told by hand: what happens (0 n TRIES, 0 .. 60; 1 n ROUNDS OF COOLING, 0 .. 9; 2"
+                + " CELL n has a PIN, if it has none, else none any more; 3 HEAT becomes n; 4 SEED becomes n, 0"
+                + " .. 99; 8 rows at most):");
         int[] most = {60, 9, 35, 99, 99};
         GrainGrower x = new GrainGrower();
         for (int what = 0; what < 5; what++) {
@@ -382,7 +383,8 @@ final class HandBounds {
     }
 
     private void after() {
-        due.by(TERMS, "AFTER, behind all of it (CELLS that are no more: nothing): BORDER; how many GRAINS; the greatest SIZE.");
+        due.by(TERMS, "AFTER, behind all of it (CELLS that are no more: nothing): BORDER; how many GRAINS; the"
+                + " greatest SIZE.");
         GrainGrower x = Lattices.of(2, 3, "221 000");
         dueAfter("no events", x, 4, 3, 3);
         for (int i = 1; i <= 8; i++) {
@@ -419,6 +421,7 @@ final class HandBounds {
         due.is("HEAT stays", x.told(8), 0);
         due.marks("MARKS stay", x, SCATTERED);
         afterPins();
+        afterEach();
         due.by(32, "AFTER: what 0 BORDER, 1 how many GRAINS, 2 the greatest SIZE.");
         dueAfter("all grains", Lattices.of(6, 6, SCATTERED), 60, 36, 1);
         dueAfter("one grain", new GrainGrower(), 0, 1, 36);
@@ -457,8 +460,38 @@ final class HandBounds {
         dueAfter("cell 7 is there again", x, 4, 2, 35);
     }
 
+    /** Each row does just what the call of its kind does: eight of them against the calls themselves. */
+    private void afterEach() {
+        Random random = new Random(7);
+        for (int run = 0; run < 200; run++) {
+            GrainGrower told = Lattices.of(6, 6, SCATTERED);
+            GrainGrower done = Lattices.of(6, 6, SCATTERED);
+            StringBuilder rows = new StringBuilder();
+            for (int i = 0; i < 8; i++) {
+                int what = random.nextInt(5);
+                int n = what == 0 ? random.nextInt(61) : what == 1 ? random.nextInt(3) * 4
+                        : what == 2 ? random.nextInt(36) : random.nextInt(100);
+                told.event(what, n);
+                undergo(done, what, n);
+                rows.append(' ').append(what).append(':').append(n);
+                dueAfter("rows" + rows, told, done.told(0), done.told(1), done.told(2));
+            }
+        }
+    }
+
+    private static void undergo(GrainGrower x, int what, int n) {
+        switch (what) {
+            case 0 -> x.tries(n);
+            case 1 -> x.cool(n);
+            case 2 -> x.pin(n, 1 - x.of(n, 1));
+            case 3 -> x.set(0, n);
+            default -> x.seed(n);
+        }
+    }
+
     private void book() {
-        due.by(33, "A row comes to the BOOK: how many there are (cell -1: it is empty then, 0, whatever the rest is).");
+        due.by(33, "A row comes to the BOOK: how many there are (cell -1: it is empty then, 0, whatever the"
+                + " rest is).");
         GrainGrower x = new GrainGrower();
         for (int rest : new int[] {0, 7, 8, -1, MAX, MIN}) {
             due.is("empty then", x.book(-1, rest), 0);
@@ -492,8 +525,8 @@ final class HandBounds {
             due.is("row " + i, x.book(i, 0), i);
         }
         due.is("row 9", x.book(9, 0), FULL);
-        due.by(TERMS, "LOOKED at: the number (from 0) of the first of these rows whose CELL isn't there, or has another MARK"
-                + " now (-5: none).");
+        due.by(TERMS, "LOOKED at: the number (from 0) of the first of these rows whose CELL isn't there, or has"
+                + " another MARK now (-5: none).");
         due.is("none", x.looked(), NOWHERE);
         x.mark(9, 1);
         due.is("none: the ninth row isn't there", x.looked(), NOWHERE);

@@ -701,6 +701,20 @@ final class LatticeBounds {
         x.price(2, 1);
         due.is("2 would cost 0 beside 1 and 3", x.more(3, 2), 998);
         due.is("but none beside has it", x.cool(1), 0);
+        x = Lattices.of(2, 2, "17 16");
+        Lattices.pinAll(x, "11 10");
+        x.price(2, 1);
+        due.is("0 would cost 0 beside 7 and 1", x.more(3, 0), 998);
+        due.is("but none beside has it", x.cool(1), 0);
+        x = Lattices.of(2, 2, "12 03");
+        Lattices.pinAll(x, "11 01");
+        x.price(2, 1);
+        x.set(1, 1);
+        x.set(1, 0);
+        due.is("2 was beside by EIGHT, but is no more", x.cool(1), 0);
+        x.set(1, 1);
+        due.is("by EIGHT it is taken", x.cool(1), 1);
+        due.is("2", x.of(2, 0), 2);
     }
 
     private void cool() {

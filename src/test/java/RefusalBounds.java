@@ -31,7 +31,8 @@ final class RefusalBounds {
     }
 
     private void numbers() {
-        due.by(TERMS, "Answers: NONE (-1) no such number; BAD (-2) a number is not as told; STATE (-3) as told; FULL (-4);");
+        due.by(TERMS, "Answers: NONE (-1) no such number; BAD (-2) a number is not as told; STATE (-3) as told;"
+                + " FULL (-4);");
         GrainGrower x = full();
         due.is("NONE", x.mark(36, 0), -1);
         due.is("BAD", x.mark(0, 8), -2);

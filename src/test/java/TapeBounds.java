@@ -30,8 +30,8 @@ final class TapeBounds {
     }
 
     private void atFirst() {
-        due.by(TERMS, "==== 3 TAPES 0 .. 5 hold nothing (at first), or a row of 0 bytes, 1 shorts, 2 ints, 3 longs, 4 booleans"
-                + " (items 0, 1).");
+        due.by(TERMS, "==== 3 TAPES 0 .. 5 hold nothing (at first), or a row of 0 bytes, 1 shorts, 2 ints, 3"
+                + " longs, 4 booleans (items 0, 1).");
         GrainGrower x = new GrainGrower();
         for (int tape = 0; tape < 6; tape++) {
             due.is("nothing at first", x.item(tape, 0, 1), NOTHING);
@@ -48,8 +48,8 @@ final class TapeBounds {
     }
 
     private void hostRefusals() {
-        due.by(TERMS, "The host's refusals: NOTHING (-11): nothing is there; CAST (-12): another sort; PLACE (-13): no such"
-                + " place; SIZE (-14): a size below 0.");
+        due.by(TERMS, "The host's refusals: NOTHING (-11): nothing is there; CAST (-12): another sort; PLACE"
+                + " (-13): no such place; SIZE (-14): a size below 0.");
         GrainGrower x = new GrainGrower();
         x.tape(0, INTS, 1);
         x.tape(1, LONGS, 1);
@@ -75,8 +75,8 @@ final class TapeBounds {
     }
 
     private void judged() {
-        due.by(TERMS, "MARKS of CELLS 0, 1, .. told by a row of bytes, from a place on, are JUDGED: the first that is otherwise"
-                + " (the CELL, counted from 0 from that place on); -5: none;");
+        due.by(TERMS, "MARKS of CELLS 0, 1, .. told by a row of bytes, from a place on, are JUDGED: the first"
+                + " that is otherwise (the CELL, counted from 0 from that place on); -5: none;");
         GrainGrower x = Lattices.of(2, 3, "701 234");
         tellMarks(x, 0, 0, 0);
         due.is("none, the row as long as the lattice", x.judge(0, 0), NOWHERE);
@@ -101,8 +101,8 @@ final class TapeBounds {
         due.is("36 at the end of a row of 60", x.judge(5, 24), NOWHERE);
         x.mark(35, 1);
         due.is("the last of 36", x.judge(5, 24), 35);
-        due.by(TERMS, "100 and how many were looked at, if the row ends ahead of that (or the place is below 0, or the TAPE holds"
-                + " nothing).");
+        due.by(TERMS, "100 and how many were looked at, if the row ends ahead of that (or the place is below 0,"
+                + " or the TAPE holds nothing).");
         x = Lattices.of(2, 3, "701 234");
         for (int length = 0; length < 6; length++) {
             tellMarks(x, 0, 0, 0);
@@ -311,7 +311,8 @@ final class TapeBounds {
     }
 
     private void tape() {
-        due.by(39, "A TAPE becomes a row of n (0 .. 60) of a sort, all 0, or holds nothing (sort -1: n does not matter): 1.");
+        due.by(39, "A TAPE becomes a row of n (0 .. 60) of a sort, all 0, or holds nothing (sort -1: n does not"
+                + " matter): 1.");
         GrainGrower x = new GrainGrower();
         for (int tape = 0; tape < 6; tape++) {
             for (int sort = BYTES; sort <= BOOLEANS; sort++) {
@@ -383,7 +384,8 @@ final class TapeBounds {
     }
 
     private void itemBits() {
-        due.by(40, "Item i of a TAPE becomes v (its lowest bits, as many as an item has; booleans: whether v is not 0): 1.");
+        due.by(40, "Item i of a TAPE becomes v (its lowest bits, as many as an item has; booleans: whether v is"
+                + " not 0): 1.");
         long[] values = {0, 1, -1, 127, 128, -128, -129, 255, 256, 32767, 32768, -32768, -32769, 65535, 65536, MAX,
             MAX + 1L, MIN, MIN - 1L, 0xffffffffL, 1L << 32, Long.MAX_VALUE, Long.MIN_VALUE, 0x0123456789abcdefL};
         int[] bits = {8, 16, 32, 64};
@@ -452,7 +454,8 @@ final class TapeBounds {
     }
 
     private void shift() {
-        due.by(42, "n items of a TAPE from i on come to another one (or the same) from j on, as they all were before: n.");
+        due.by(42, "n items of a TAPE from i on come to another one (or the same) from j on, as they all were"
+                + " before: n.");
         for (int sort = BYTES; sort <= LONGS; sort++) {
             dueShift(sort, "all that fit", 0, 0, 1, 0, 3, "12345", "123");
             dueShift(sort, "the last ones", 0, 2, 1, 0, 3, "12345", "345");
@@ -489,7 +492,8 @@ final class TapeBounds {
     }
 
     private void shiftPlaces() {
-        due.by(42, "NONE: tapes; NOTHING; CAST: of unlike sorts; PLACE: n, i or j is below 0, or beyond either's end.");
+        due.by(42, "NONE: tapes; NOTHING; CAST: of unlike sorts; PLACE: n, i or j is below 0, or beyond"
+                + " either's end.");
         GrainGrower x = twoTapes(INTS);
         for (int tape : new int[] {-1, 6, MAX, MIN}) {
             due.is("tape " + tape, x.shift(tape, 0, 1, 0, 1), NONE);
